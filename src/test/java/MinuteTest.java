@@ -122,6 +122,7 @@ public final class MinuteTest {
         g.pass(1);
         C.badState(() -> g.correct(1, 0, 5));
         C.badArgument(() -> g.correct(0, 0, 601));
+        C.badArgument(() -> g.correct(0, 0, -1));
         C.due(90, () -> g.correct(0, 0, 600));
         C.due(600, () -> g.reading(0, 0));
         C.badState(() -> g.correct(0, 0, 600));
@@ -133,6 +134,13 @@ public final class MinuteTest {
         g.pass(10);
         C.badState(() -> g.correct(0, 1, 5));
         C.badState(() -> g.correct(0, 0, 5));
+        CopperDispatch h = small();
+        h.setDemand(0, 1);
+        h.breakMeter(0, true);
+        h.pass(10);
+        C.due(0, () -> h.correct(0, 0, 0));
+        C.badState(() -> h.correct(0, 0, 0));
+        C.due(0L, () -> h.bill(FEEDER, 0, 0));
     }
 
     private static void promise38Bill() {

@@ -21,7 +21,9 @@ public final class NetTest {
         promise9FlowPairsByNumbers();
         promise10FlowAnew();
         promise11Island();
+        promise9FlowOfStores();
         promise12Price();
+        promise12PriceOfSteps();
         C.end();
     }
 
@@ -342,6 +344,28 @@ public final class NetTest {
         C.due(0, () -> g.flow(1));
     }
 
+    /** A store takes in over a line, and gives back over it, at the last node. */
+    private static void promise9FlowOfStores() {
+        CopperDispatch g = supplied(0, 6, 3);
+        g.line(7, 0, 1, 99);
+        g.line(7, 6, 1, 99);
+        g.store(7, 9, 2, 10);
+        g.wheel(7);
+        g.wind(0, true, 3);
+        g.pass(1);
+        C.due(-2, () -> g.flow(0));
+        C.due(3, () -> g.flow(1));
+        C.due(180, () -> g.level(0));
+        g.wind(0, true, 1);
+        g.setDemand(0, 2);
+        g.stop(0);
+        g.pass(1);
+        C.due(0, () -> g.flow(0));
+        C.due(2, () -> g.flow(1));
+        C.due(1, () -> g.amount(CopperDispatch.STORE, 0));
+        C.due(80, () -> g.level(0));
+    }
+
     private static void promise10FlowAnew() {
         CopperDispatch g = supplied(2, 1, 5);
         C.noSuch(() -> g.flowAnew(0));
@@ -403,5 +427,48 @@ public final class NetTest {
         g.setDemand(0, 60);
         g.pass(1);
         C.due(1000, () -> g.price(0));
+    }
+
+    /** A plant uses the steps that its load needs, from the first one on, the last one perhaps in part. */
+    private static void promise12PriceOfSteps() {
+        CopperDispatch g = new CopperDispatch();
+        g.plant(7, 0, 50, 0, true);
+        g.feeder(7, 1);
+        g.offer(0, 3, 10);
+        g.offer(0, 40, 10);
+        g.offer(0, 50, 10);
+        g.clear(30);
+        g.start(0);
+        int[][] due = {{0, 0}, {1, 3}, {10, 3}, {11, 40}, {20, 40}, {21, 50}, {30, 50}, {31, 1000}};
+        for (int[] one : due) {
+            g.setDemand(0, one[0]);
+            g.pass(1);
+            C.due(one[1], () -> g.price(7));
+        }
+        // Scheduled plants that are not ON use nothing; the price of a reserve is that told last.
+        CopperDispatch h = new CopperDispatch();
+        h.plant(0, 0, 50, 0, true);
+        h.plant(0, 0, 50, 0, true);
+        h.offer(0, 90, 10);
+        h.reserve(1, 0, 1, 30);
+        h.reserve(1, 0, 1, 20);
+        h.reserve(1, 1, 1, 60);
+        h.start(1);
+        h.feeder(0, 2);
+        h.pass(1);
+        C.due(20, () -> h.price(0));
+        h.setDemand(0, 3);
+        h.pass(1);
+        C.due(60, () -> h.price(0));
+        h.setDemand(0, 0);
+        h.pass(1);
+        C.due(60, () -> h.price(0));
+        h.stop(1);
+        h.start(0);
+        h.pass(1);
+        C.due(0, () -> h.price(0));
+        h.start(1);
+        h.pass(1);
+        C.due(60, () -> h.price(0));
     }
 }

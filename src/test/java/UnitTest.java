@@ -24,6 +24,7 @@ public final class UnitTest {
         promise32Amount();
         promise32MakesLessInOrder();
         promise32DearestGoesOff();
+        promise32UndoneSheddingCountsNot();
         promise32StoresThatGiveTakeNothing();
         promise32NotLive();
         C.end();
@@ -423,6 +424,90 @@ public final class UnitTest {
         shed(g, false, false);
         C.due(9, () -> g.price(0));
         C.due(20, () -> g.amount(PLANT, 1));
+    }
+
+    /** What was shed, called and given for a plant that goes OFF is as if it had never been, also in the turns. */
+    private static void promise32UndoneSheddingCountsNot() {
+        CopperDispatch g = new CopperDispatch();
+        g.plant(0, 0, 40, 0, true);
+        g.plant(0, 20, 30, 0, true);
+        g.offer(0, 5, 40);
+        g.clear(10);
+        g.reserve(0, 0, 1, 70);
+        g.offer(1, 9, 1);
+        g.start(0);
+        g.start(1);
+        g.feeder(0, 5);
+        g.feeder(0, 12);
+        g.feeder(0, 13);
+        // 30 of 31, all served.
+        g.pass(1);
+        shed(g, false, false, false);
+        C.due(9, () -> g.price(0));
+        g.setDemand(1, 60);
+        g.setDemand(2, 8);
+        // 73 of 31: 0 and 1 are shed, 8 are left, less than 20: plant 1 goes OFF, 0 and 1 are shed anew, of 11.
+        g.pass(1);
+        shed(g, true, true, false);
+        C.due(0, () -> g.plantState(1));
+        C.due(8, () -> g.amount(PLANT, 0));
+        C.due(11, () -> g.base(0));
+        g.setDemand(1, 2);
+        g.pass(1);
+        // 0 was shed ahead of 1, and does not fit beside 8; 1 is smaller, but has to wait.
+        shed(g, true, true, false);
+        g.setDemand(0, 3);
+        g.pass(1);
+        shed(g, false, true, false);
+        // A store gives for the sake of plant 1, and what it gave is undone as that goes OFF.
+        CopperDispatch h = new CopperDispatch();
+        h.plant(0, 20, 30, 0, true);
+        h.plant(0, 0, 30, 0, true);
+        h.offer(0, 9, 1);
+        h.store(0, 9, 4, 0);
+        h.wheel(0);
+        h.wind(0, true, 4);
+        h.reserve(1, 0, 6, 80);
+        h.start(1);
+        h.pass(1);
+        h.wind(0, true, 0);
+        h.start(0);
+        h.feeder(0, 31);
+        h.feeder(0, 6);
+        h.feeder(0, 0);
+        // 37 of 30: 31 are shed, of 20 for 6 14 are too much; without plant 0 there are 6 and 4: 31 are shed.
+        h.pass(1);
+        C.due(0, () -> h.plantState(0));
+        shed(h, true, false, false);
+        C.due(0, () -> h.left(1, 0));
+        C.due(2, () -> h.amount(PLANT, 1));
+        C.due(4, () -> h.amount(STORE, 0));
+        C.due(0, () -> h.level(0));
+        // A reserve whose call is undone was not called, and its price does not count once the plant is ON again.
+        CopperDispatch k = new CopperDispatch();
+        k.plant(0, 20, 30, 0, true);
+        k.plant(0, 0, 30, 0, true);
+        k.offer(0, 9, 1);
+        k.reserve(0, 0, 9, 80);
+        k.start(0);
+        k.start(1);
+        k.wheel(0);
+        k.wind(0, true, 1);
+        k.feeder(0, 31);
+        k.feeder(0, 1);
+        // 32 of 30: 31 are shed, and 19 too much; plant 0 goes OFF, then 31 are shed anew.
+        k.pass(1);
+        C.due(9, () -> k.left(0, 0));
+        C.due(0, () -> k.base(0));
+        k.setDemand(0, 0);
+        k.pass(1);
+        shed(k, false, false);
+        C.due(0, () -> k.price(0));
+        k.start(0);
+        k.setDemand(0, 20);
+        k.pass(1);
+        C.due(9, () -> k.price(0));
+        C.due(9, () -> k.left(0, 0));
     }
 
     /** A store that gives in a minute takes in nothing in it, but gives less. */
