@@ -42,7 +42,7 @@ public final class WrongCallsTest {
     private static int run(List<Method> methods, Random random) {
         CopperDispatch g = new CopperDispatch();
         int thrown = 0;
-        String before = everything(g);
+        String before = Picture.of(g);
         for (int k = 0; k < CALLS; k++) {
             Method method = methods.get(random.nextInt(methods.size()));
             Object[] arguments = new Object[method.getParameterCount()];
@@ -50,7 +50,7 @@ public final class WrongCallsTest {
                 arguments[a] = method.getParameterTypes()[a] == boolean.class ? random.nextBoolean() : some(random);
             }
             Throwable exception = call(g, method, arguments);
-            String after = everything(g);
+            String after = Picture.of(g);
             if (exception != null) {
                 thrown++;
                 boolean isNamed = Arrays.asList(method.getExceptionTypes()).contains(exception.getClass());
@@ -78,37 +78,6 @@ public final class WrongCallsTest {
             return e.getCause();
         } catch (IllegalAccessException e) {
             throw new AssertionError(e);
-        }
-    }
-
-    /** All that can be asked of an object, in one text. */
-    private static String everything(CopperDispatch g) {
-        StringBuilder all = new StringBuilder();
-        int hours = (g.minute() + 9) / 10;
-        all.append(g.minute()).append(' ').append(g.missing());
-        for (int k = 0; k < 12; k++) {
-            int one = k;
-            ask(all, () -> g.stateOf(one) + " " + g.heat(one) + " " + g.flow(one) + " " + g.flowAnew(one));
-            ask(all, () -> g.island(one) + " " + g.price(one));
-            ask(all, () -> g.plantState(one) + " " + g.base(one) + " " + g.scheduled(one) + " " + g.left(one, 0)
-                + " " + g.left(one, 1));
-            ask(all, () -> String.valueOf(g.isShed(one)));
-            ask(all, () -> String.valueOf(g.level(one)));
-            for (int what = 0; what < 4; what++) {
-                int kind = what;
-                ask(all, () -> g.amount(kind, one) + " " + g.bill(kind, one, hours - 1));
-            }
-            ask(all, () -> String.valueOf(g.reading(one, hours - 1)));
-        }
-        ask(all, () -> String.valueOf(g.open(hours - 1)));
-        return all.toString();
-    }
-
-    private static void ask(StringBuilder all, java.util.function.Supplier<String> question) {
-        try {
-            all.append(question.get()).append('|');
-        } catch (IndexOutOfBoundsException e) {
-            all.append("none|");
         }
     }
 }
