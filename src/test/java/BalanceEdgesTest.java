@@ -771,7 +771,13 @@ public final class BalanceEdgesTest {
         leastLoadOneTooMuchGoesOff();
         onlyTheDearestGoesOff();
         severalGoOff();
-        allButTheFirstStepIsUndone();
+        servedAgainIsNotUndone();
+        whatWasCalledIsUndone();
+        whatWasGivenIsUndone();
+        whatWasShedIsUndone();
+        theTurnsAreUndone();
+        whatWasShedBeforeStaysShed();
+        whatWasCalledBeforeStaysCalled();
     }
 
     private static void enoughExactlyTakesNothing() {
@@ -1015,7 +1021,7 @@ public final class BalanceEdgesTest {
     }
 
     /** A feeder is served again, then the dearest goes OFF; what the store took in is not, that the feeder is back is. */
-    private static void allButTheFirstStepIsUndone() {
+    private static void servedAgainIsNotUndone() {
         CopperDispatch g = new CopperDispatch();
         g.plant(0, 20, 30, 0, true);
         g.plant(0, 0, 30, 0, true);
@@ -1036,6 +1042,182 @@ public final class BalanceEdgesTest {
         amounts(g, WHEEL, 8);
         amounts(g, STORE, -2);
         levels(g, 200);
+    }
+
+    /** Plant 0 makes 20 at the least, and is the dearest; plant 1 makes nothing. The wheel fills the store. */
+    private static CopperDispatch leastOf20() {
+        CopperDispatch g = new CopperDispatch();
+        g.plant(0, 20, 30, 0, true);
+        g.plant(0, 0, 30, 0, true);
+        g.offer(0, 9, 1);
+        g.start(1);
+        g.wheel(0);
+        g.wind(0, true, 4);
+        g.store(0, 4, 4, 0);
+        g.reserve(0, 0, 5, 80);
+        g.reserve(1, 0, 6, 70);
+        g.pass(1);
+        levels(g, 400);
+        g.wind(0, true, 0);
+        g.start(0);
+        return g;
+    }
+
+    /** 40 of 20: 11 are called and 4 given, and 31 shed; 9 of 20 are too little, so plant 0 goes OFF. */
+    private static void whatWasCalledIsUndone() {
+        CopperDispatch g = leastOf20();
+        g.feeder(0, 31);
+        g.feeder(0, 9);
+        g.pass(1);
+        // Then 40 of 0: 6 of plant 1 are called and 4 given, and 31 shed.
+        C.due(0, () -> g.plantState(0));
+        left(g, 0, 5, 0);
+        left(g, 1, 0, 0);
+        C.due(0, () -> g.base(0));
+        C.due(6, () -> g.base(1));
+        shed(g, true, false);
+        amounts(g, PLANT, 0, 5);
+        // What was not called has no price, once the plant is ON again.
+        g.setDemand(0, 0);
+        g.setDemand(1, 20);
+        g.start(0);
+        g.pass(1);
+        shed(g, false, false);
+        left(g, 0, 5, 0);
+        C.due(70, () -> g.price(0));
+    }
+
+    /** 33 of 20: 11 are called and 2 given, and nothing shed; with 13 less they are too much. */
+    private static void whatWasGivenIsUndone() {
+        CopperDispatch g = leastOf20();
+        g.feeder(0, 31);
+        g.feeder(0, 2);
+        g.pass(1);
+        amounts(g, STORE, 2);
+        levels(g, 200);
+        C.due(2, () -> g.plantState(0));
+        CopperDispatch h = leastOf20();
+        h.feeder(0, 40);
+        h.feeder(0, 2);
+        h.pass(1);
+        // 42 of 20: 11 called, 4 given, 40 shed, too much. Without plant 0: 6 called, 4 given, 40 shed; 2 of plant 1.
+        C.due(0, () -> h.plantState(0));
+        amounts(h, PLANT, 0, 0);
+        amounts(h, STORE, 2);
+        levels(h, 200);
+        shed(h, true, false);
+    }
+
+    /** What is called anew is called for the demand of all who were served at first. */
+    private static void whatWasShedIsUndone() {
+        CopperDispatch g = leastOf20();
+        g.feeder(0, 3);
+        g.feeder(0, 40);
+        g.pass(1);
+        // 43 of 20: 11 called, 4 given; 3 shed, then 40: too much. Then 6 called and 4 given for 43: 3 are shed, then 40.
+        C.due(0, () -> g.plantState(0));
+        shed(g, true, true);
+        left(g, 0, 5, 0);
+        left(g, 1, 0, 0);
+        C.due(6, () -> g.base(1));
+        amounts(g, PLANT, 0, 0);
+        amounts(g, STORE, 0);
+        levels(g, 400);
+        CopperDispatch h = new CopperDispatch();
+        h.plant(0, 20, 30, 0, true);
+        h.plant(0, 0, 30, 0, true);
+        h.offer(0, 9, 1);
+        h.wheel(0);
+        h.wind(0, true, 5);
+        h.start(0);
+        h.start(1);
+        h.feeder(0, 4);
+        h.feeder(0, 0);
+        h.pass(1);
+        // 25 for 4: nothing is short, and 0 is not shed then, nor behind that.
+        C.due(0, () -> h.plantState(0));
+        shed(h, false, false);
+        amounts(h, FEEDER, 4, 0);
+        amounts(h, WHEEL, 4);
+    }
+
+    /** Feeder 0 was shed ahead of 1 long ago; what is shed for the sake of a plant that goes OFF does not turn that. */
+    private static void theTurnsAreUndone() {
+        CopperDispatch g = new CopperDispatch();
+        g.plant(0, 0, 30, 0, true);
+        g.plant(0, 20, 20, 0, true);
+        g.offer(0, 1, 30);
+        g.offer(1, 9, 1);
+        g.clear(10);
+        g.start(0);
+        g.start(1);
+        g.feeder(0, 25);
+        g.feeder(0, 0);
+        g.feeder(0, 60);
+        g.feeder(0, 6);
+        // 91 of 30: 0 and 2 are shed; 24 too much, 10 of plant 0 and then all of plant 1. Then 91 of 10: the same two.
+        g.pass(1);
+        C.due(0, () -> g.plantState(1));
+        shed(g, true, false, true, false);
+        g.setDemand(0, 4);
+        g.setDemand(2, 4);
+        g.pass(1);
+        // 0 is the first one that comes back, then 4 more fit not: 2 waits.
+        shed(g, false, false, true, false);
+        g.setDemand(3, 2);
+        g.pass(1);
+        shed(g, false, false, false, false);
+        g.setDemand(3, 6);
+        // Never shed is 3 alone, then 0 ahead of 2.
+        g.setDemand(0, 10);
+        g.setDemand(2, 10);
+        g.pass(1);
+        shed(g, true, false, false, true);
+    }
+
+    /** 0 and 1 were shed in an earlier minute, in this order, and stay so when a plant goes OFF. */
+    private static void whatWasShedBeforeStaysShed() {
+        CopperDispatch g = Grids.one(10, 11);
+        g.feeder(0, 12);
+        g.feeder(0, 1);
+        g.pass(1);
+        shed(g, true, true, false);
+        g.plant(0, 20, 20, 0, true);
+        g.offer(1, 9, 1);
+        g.start(1);
+        g.setDemand(0, 31);
+        g.pass(1);
+        // 31 does not fit beside 1 of 30; 29 are too much, and plant 1 goes OFF.
+        C.due(0, () -> g.plantState(1));
+        shed(g, true, true, false);
+        C.due(1000, () -> g.price(0));
+        amounts(g, PLANT, 1, 0);
+        g.setDemand(0, 3);
+        g.setDemand(1, 3);
+        g.pass(1);
+        shed(g, false, true, false);
+        g.pass(1);
+        shed(g, false, false, false);
+        // Never shed is 2 alone; then 0 is ahead of 1 still.
+        g.setDemand(0, 8);
+        g.setDemand(1, 8);
+        g.pass(1);
+        shed(g, true, false, true);
+    }
+
+    /** A reserve that was called in an earlier minute of the hour has its price still when another plant goes OFF. */
+    private static void whatWasCalledBeforeStaysCalled() {
+        CopperDispatch g = reserved(11);
+        g.pass(1);
+        left(g, 0, 4, 5);
+        g.plant(0, 20, 20, 0, true);
+        g.offer(1, 9, 1);
+        g.start(1);
+        g.pass(1);
+        C.due(0, () -> g.plantState(1));
+        left(g, 0, 4, 5);
+        C.due(11, () -> g.base(0));
+        C.due(70, () -> g.price(0));
     }
 
     // ---- prices

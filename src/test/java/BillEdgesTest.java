@@ -19,6 +19,7 @@ public final class BillEdgesTest {
         storePaysWhatItTakesIn();
         storeGetsWhatItGives();
         wheelGetsWhatItMakesOnly();
+        moneyIsCountedAtTheLastNode();
         moneyIsCountedByHours();
         meterIsWholeAtFirst();
         brokenMeterCountsNothing();
@@ -165,6 +166,24 @@ public final class BillEdgesTest {
         g.pass(1);
         // Nothing is made by the plant, so the price is 0.
         C.due(32L, () -> g.bill(WHEEL, 0, 0));
+    }
+
+    private static void moneyIsCountedAtTheLastNode() {
+        CopperDispatch g = new CopperDispatch();
+        g.plant(7, 0, 20, 0, true);
+        g.offer(0, 8, 20);
+        g.clear(12);
+        g.start(0);
+        g.feeder(7, 10);
+        g.wheel(7);
+        g.wind(0, true, 1);
+        g.store(7, 9, 2, 0);
+        g.pass(1);
+        C.due(80L, () -> g.bill(FEEDER, 0, 0));
+        C.due(88L, () -> g.bill(PLANT, 0, 0));
+        C.due(8L, () -> g.bill(WHEEL, 0, 0));
+        C.due(-16L, () -> g.bill(STORE, 0, 0));
+        C.due(8, () -> g.price(7));
     }
 
     private static void moneyIsCountedByHours() {

@@ -316,6 +316,13 @@ public final class MarketEdgesTest {
         C.due(0, () -> g.clear(9));
         C.due(0, () -> g.scheduled(0));
         C.due(9, g::missing);
+        // 1 is something, and less than 2.
+        CopperDispatch h = plant(2, 30, 0, true);
+        h.offer(0, 5, 30);
+        C.due(0, () -> h.clear(1));
+        C.due(0, () -> h.scheduled(0));
+        C.due(1, h::missing);
+        C.due(5, () -> h.clear(2));
     }
 
     /** Plant 0 has nothing at first; as 1 is out, 0 has all. */

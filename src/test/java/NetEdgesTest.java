@@ -26,6 +26,8 @@ public final class NetEdgesTest {
         whatComesTogetherIsSharedTogether();
         flowsAgainstEachOtherAreLessened();
         sendersAndTakersGoByNumbers();
+        sendersKeepToTheirIslands();
+        storesSendAndTake();
         flowIsOfTheMinuteThatWasLast();
         flowAnewSeesNothingSwitchedSince();
         flowAnewSeesNothingTrippedSince();
@@ -378,6 +380,42 @@ public final class NetEdgesTest {
         g.feeder(1, 6);
         g.pass(1);
         flows(g, 4, 0, 2, 2);
+    }
+
+    /** 0 and 1 have too much, 2 and 3 too little: 2 is the lower one, but not in the island of 0. */
+    private static void sendersKeepToTheirIslands() {
+        CopperDispatch g = new CopperDispatch();
+        g.line(0, 3, 1, 99);
+        g.line(1, 2, 1, 99);
+        for (int node = 0; node < 2; node++) {
+            g.plant(node, 0, 1, 0, true);
+            g.start(node);
+            g.wheel(node);
+            g.wind(node, true, 5 + node);
+            g.feeder(3 - node, 5 + node);
+        }
+        g.pass(1);
+        flows(g, 5, 6);
+        g.setDemand(0, 1);
+        g.pass(1);
+        flows(g, 1, 6);
+        g.setDemand(0, 5);
+        g.setDemand(1, 0);
+        g.pass(1);
+        flows(g, 5, 0);
+    }
+
+    /** A store takes in over the line, and gives back over it. */
+    private static void storesSendAndTake() {
+        CopperDispatch g = sending(10, 0);
+        g.line(0, 1, 1, 99);
+        g.store(1, 9, 4, 0);
+        g.setDemand(0, 7);
+        g.pass(1);
+        flows(g, 3);
+        g.setDemand(0, 12);
+        g.pass(1);
+        flows(g, -2);
     }
 
     private static void flowIsOfTheMinuteThatWasLast() {
