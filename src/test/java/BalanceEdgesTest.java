@@ -1175,19 +1175,23 @@ public final class BalanceEdgesTest {
         shed(g, true, false, false, true);
     }
 
-    /** 0 and 1 were shed in an earlier minute, in this order, and stay so when a plant goes OFF. */
+    /** 1 was shed, then 0, in earlier minutes: they stay so, and in this order, when a plant goes OFF. */
     private static void whatWasShedBeforeStaysShed() {
-        CopperDispatch g = Grids.one(10, 11);
+        CopperDispatch g = Grids.one(10, 0);
         g.feeder(0, 12);
         g.feeder(0, 1);
+        g.pass(1);
+        shed(g, false, true, false);
+        g.setDemand(0, 12);
         g.pass(1);
         shed(g, true, true, false);
         g.plant(0, 20, 20, 0, true);
         g.offer(1, 9, 1);
         g.start(1);
-        g.setDemand(0, 31);
+        g.setDemand(0, 0);
+        g.setDemand(1, 31);
         g.pass(1);
-        // 31 does not fit beside 1 of 30; 29 are too much, and plant 1 goes OFF.
+        // 31 does not fit beside 1 of 30, so 0 has to wait; 29 are too much, and plant 1 goes OFF.
         C.due(0, () -> g.plantState(1));
         shed(g, true, true, false);
         C.due(1000, () -> g.price(0));
@@ -1195,14 +1199,14 @@ public final class BalanceEdgesTest {
         g.setDemand(0, 3);
         g.setDemand(1, 3);
         g.pass(1);
-        shed(g, false, true, false);
+        shed(g, true, false, false);
         g.pass(1);
         shed(g, false, false, false);
-        // Never shed is 2 alone; then 0 is ahead of 1 still.
+        // Never shed is 2 alone; then 1 is ahead of 0 still.
         g.setDemand(0, 8);
         g.setDemand(1, 8);
         g.pass(1);
-        shed(g, true, false, true);
+        shed(g, false, true, true);
     }
 
     /** A reserve that was called in an earlier minute of the hour has its price still when another plant goes OFF. */
